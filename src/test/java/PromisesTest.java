@@ -126,6 +126,9 @@ public final class PromisesTest {
         due("5: an 11th", x.action(), -1);
         due("5: and again", x.action(), -1);
         due("5: the 10th is there", x.begin(9), 0);
+        due("5: the 11th isn't", x.begin(10), -1);
+        due("5: nor for declare", x.declare(10, x.path(0, 'a'), true), -1);
+        due("5: nor for about", x.about(10, 0), -1);
     }
 
     private static void promise6() {
@@ -565,6 +568,7 @@ public final class PromisesTest {
         allAtOnce();
         clashes();
         staysInTheWay();
+        allFull();
     }
 
     /** What LINKS lead to is what the WORLD has, whichever OUTPUT is gathered first. */
@@ -657,6 +661,38 @@ public final class PromisesTest {
         x.write(1, abc, 1);
         x.file(a, 0);
         due("14: as it is by then", x.finish(1, false), 1);
+    }
+
+    /** Of all that the document bounds as much as there can be. */
+    private static void allFull() {
+        SandboxTree x = new SandboxTree(50);
+        x.action();
+        for (int n = 0; n < 12; n++) {
+            x.declare(0, x.path(0, (char) ('a' + n)), true);
+        }
+        for (int n = 13; n < 60; n++) {
+            x.path(n - 1, 'q');
+        }
+        x.begin(0);
+        for (int n = 1; n < 12; n++) {
+            x.write(0, n, n);
+        }
+        due("14: the deepest PATH of 60", x.write(0, 59, 5), 1);
+        due("13: with 60 PATHS", x.list(0, 58, 0), 'q');
+        due("13: none more with 60 PATHS", x.list(0, 59, 0), 0);
+        due("14: twelve OUTPUTS", x.finish(0, false), 12);
+        due("14: the last of them came", x.source(59), 5);
+        x.begin(0);
+        for (int n = 1; n < 12; n++) {
+            x.write(0, n, n);
+        }
+        due("14: the twelfth OUTPUT LACKING", x.finish(0, false), -32);
+        x.begin(0);
+        for (int n = 1; n < 12; n++) {
+            x.write(0, n, n);
+        }
+        x.link(0, 59, 58);
+        due("14: the twelfth OUTPUT LOOSE", x.finish(0, false), -33);
     }
 
     private static void promise15() {
