@@ -6,7 +6,10 @@ import java.nio.file.Path;
 import java.util.ArrayList;
 import java.util.List;
 
-/** What README.md says: its example, call by call, its table of finish's answers, and its readings. */
+/**
+ * README.md's example is as the class answers, its tables have a row for each call and each answer of
+ * finish, and the class has the readings that README.md tells (their words are not compared).
+ */
 public final class ReadmeTest {
     private static int wrong = 0;
     private static List<String> readme;
@@ -21,7 +24,7 @@ public final class ReadmeTest {
         everyCallIsTold();
         finishAnswersAreTold();
         readings();
-        System.out.println(wrong == 0 ? "README.md says what is so" : wrong + " things in README.md are not so");
+        System.out.println(wrong == 0 ? "README.md's example and rows are as due" : wrong + " answers or rows are not as due");
         if (wrong != 0) {
             System.exit(1);
         }
